@@ -126,41 +126,48 @@ final class AskedTest {
         checks.badArgument("kiln of 6", yard, () -> yard.kiln(6));
     }
 
-    /** Comes to each of the cones' works just so: 4.0 of work a step, from 12.0 on, and 5.0 and 8.0 before. */
+    /** Comes to the work of each cone just so, and in another yard to 1.0 less of each. */
     private static void promise24OfShelfCone() {
-        int[] works = {8, 16, 28, 44, 64, 88, 116, 148, 184, 224, 268, 316};
         KilnYard yard = new KilnYard();
-        yard.ramp(200, 700, 0);
-        yard.ramp(32, 764, 1);
-        yard.ramp(32, 828, 20);
-        yard.ramp(32, 828, 20);
-        yard.ramp(32, 828, 20);
-        int reached = 0;
-        for (int firing = 0; firing < 2; firing++) {
-            yard.light();
-            yard.burn(11);
-            while (yard.many(2) == 1 && yard.kiln(4) < 330.0) {
-                int due = 0;
-                double work = yard.kiln(4);
-                for (int needed : works) {
-                    due += work >= needed ? 1 : 0;
-                    reached += work == needed ? 1 : 0;
-                }
-                checks.same("CONE with a work of " + work, yard.ofShelf(1, 0), due);
-                openForTheEnd(yard);
-                yard.burn(1);
-            }
-            yard.door(false);
-        }
-        checks.same("cones come to just so", reached >= 12 ? 1 : 0, 1);
+        // From 12.0 on, and 5.0 and 8.0 before.
+        int reached = worksComeTo(yard, 764, 0) + worksComeTo(yard, 764, 0);
+        checks.same("cones come to just so", reached, 12);
         checks.same("CONE", yard.ofShelf(1, 0), 12);
+        KilnYard less = new KilnYard();
+        // From 11.0 on, and 4.0 and 7.0 before.
+        int missed = worksComeTo(less, 732, 1) + worksComeTo(less, 764, 1);
+        checks.same("cones missed by just 1.0", missed, 12);
     }
 
-    /** With the door open as it goes out, it cools too fast for more work. */
-    private static void openForTheEnd(KilnYard yard) {
-        if (yard.many(3) == 4 && yard.many(4) == 20) {
-            yard.door(true);
-        }
+    /**
+     * Fires until the work is 330.0, in steps that end with 4.0 each.
+     * Answers how many cones' works it came to, but for so much less.
+     */
+    private static int worksComeTo(KilnYard yard, int firstTarget, int less) {
+        int[] works = {8, 16, 28, 44, 64, 88, 116, 148, 184, 224, 268, 316};
+        yard.forget();
+        yard.ramp(200, 700, 0);
+        yard.ramp(32, firstTarget, 1);
+        yard.ramp(32, 828, 20);
+        yard.ramp(32, 828, 20);
+        yard.ramp(32, 828, 20);
+        yard.light();
+        yard.burn(11);
+        int reached = 0;
+        double work = 0.0;
+        do {
+            work = yard.kiln(4);
+            int due = 0;
+            for (int needed : works) {
+                due += work >= needed ? 1 : 0;
+                reached += work == needed - less ? 1 : 0;
+            }
+            checks.same("CONE with a work of " + work, yard.ofShelf(1, 0), due);
+            // With the door open as it goes out, it cools too fast for more work.
+            yard.door(yard.wouldEnd() == 1);
+        } while (yard.burn(1) && work < 330.0);
+        yard.door(false);
+        return reached;
     }
 
     private static void promise24OfShelfCells() {

@@ -171,6 +171,19 @@ final class KilnTest {
         checks.same("RAMP then", yard.many(3), -1);
         checks.same("HELD then", yard.many(4), 0);
         checks.same("CLOCK", yard.many(1), 6);
+        fiveRampsInOneStep();
+    }
+
+    private static void fiveRampsInOneStep() {
+        KilnYard yard = new KilnYard();
+        for (int i = 0; i < 5; i++) {
+            yard.ramp(80, 100, 0);
+        }
+        yard.light();
+        checks.same("to TARGET", yard.burn(1), true);
+        checks.same("behind all five", yard.burn(1), false);
+        checks.same("HEAT then", yard.kiln(0), 90.0);
+        checks.same("FUEL then", yard.many(10), 1);
     }
 
     private static void promise13BurnStalls() {
@@ -302,6 +315,11 @@ final class KilnTest {
         checks.same("BURST once", yard.ofPot(2, 2), 1);
         checks.same("a pot on no shelf", yard.ofPot(3, 0), 0);
         checks.same("a broken pot stays there", yard.ofPot(2, 3), 2);
+        KilnYard little = Scenes.furnished();
+        little.pot(0, 1, 1, 1);
+        little.set(0, 1, 0);
+        Scenes.heatTo(little, 101);
+        checks.same("STATE at 101.0", little.ofPot(0, 0), 5);
     }
 
     private static void checksStates(String when, KilnYard yard, int low, int middle, int high) {
@@ -354,6 +372,34 @@ final class KilnTest {
         checks.same("down by 64", marksOfStep(574, 510, 1), "at 510.0 0 0 2");
         checks.same("down by 65", marksOfStep(574, 509, 1), "at 509.0 0 2 2");
         coolingCracks();
+        cracksByLittle();
+    }
+
+    /** A stall leaves the kiln at a heat that is not whole, from which it falls by 43.0 and 32.1875. */
+    private static void cracksByLittle() {
+        KilnYard yard = Scenes.furnished();
+        yard.pot(0, 1, 1, 4);
+        yard.dry(8, 8);
+        yard.set(0, 1, 0);
+        yard.ramp(30, 593, 0);
+        yard.ramp(200, 1400, 0);
+        yard.light();
+        while (yard.kiln(0) <= 593.0) {
+            yard.burn(1);
+        }
+        yard.door(true);
+        yard.burn(1);
+        checks.same("STALLS", yard.many(11), 1);
+        checks.same("HEAT", yard.kiln(0), 647.1875);
+        yard.door(false);
+        yard.forget();
+        yard.ramp(43, 572, 0);
+        yard.light();
+        yard.burn(1);
+        checks.same("not cracked", yard.ofPot(0, 2), 0);
+        yard.burn(1);
+        checks.same("HEAT", yard.kiln(0), 572.0);
+        checks.same("cracked by 32.1875", yard.ofPot(0, 2), 2);
     }
 
     private static void coolingCracks() {

@@ -58,6 +58,7 @@ final class OrderTest {
         yard.order(Scenes.PALE, 0, 0, 9);
         checks.outOfBounds("meet order -1", yard, () -> yard.meet(-1, 0));
         checks.outOfBounds("meet order 4", yard, () -> yard.meet(4, 0));
+        checks.outOfBounds("meet order 6", yard, () -> yard.meet(6, 0));
         checks.outOfBounds("meet with pot -1", yard, () -> yard.meet(3, -1));
         checks.outOfBounds("meet with pot 2", yard, () -> yard.meet(3, 2));
         checks.badState("meet with a wet pot", yard, () -> yard.meet(3, 1));

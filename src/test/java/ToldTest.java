@@ -172,6 +172,7 @@ final class ToldTest {
         checks.same("a dry one does not crack", yard.ofPot(0, 2), 0);
         checks.same("DAY", yard.many(0), 15);
         lastLossIsWhatIsThere();
+        dryAtAQuarter();
     }
 
     /** A pot that has 1.5f left loses just that in any air, and so is not cracked. */
@@ -188,6 +189,27 @@ final class ToldTest {
         checks.same("not cracked by 1.5f", yard.ofPot(0, 2), 0);
         checks.same("cracked by 4f", yard.ofPot(1, 2), 2);
         checks.same("a crack does not break it", yard.ofPot(1, 0), 0);
+        KilnYard little = Scenes.furnished();
+        little.pot(0, 1, 1, 2);
+        little.cover(0, true);
+        little.dry(20, 1);
+        little.dry(20, 1);
+        little.dry(11, 1);
+        little.cover(0, false);
+        checks.same("water before", little.water(0), 1.625);
+        checks.same("dry", little.dry(1, 8), 1);
+        checks.same("cracked by 1.625f", little.ofPot(0, 2), 2);
+    }
+
+    private static void dryAtAQuarter() {
+        KilnYard yard = Scenes.furnished();
+        yard.pot(0, 1, 1, 4);
+        yard.dry(7, 8);
+        yard.cover(0, true);
+        checks.same("dry to 0.3125", yard.dry(11, 1), 0);
+        checks.same("water", yard.water(0), 0.3125);
+        checks.same("dry to 0.25", yard.dry(1, 1), 1);
+        checks.same("water", yard.water(0), 0.25);
     }
 
     private static void promise6DryRefuses() {

@@ -18,6 +18,26 @@ final class WouldTest {
         checks.end();
     }
 
+    /** With less power, what would be takes longer. */
+    private static void wouldWithLessPower() {
+        KilnYard yard = new KilnYard();
+        for (int i = 0; i < 3; i++) {
+            Scenes.fire(yard, 0);
+            yard.unload();
+        }
+        yard.forget();
+        yard.ramp(200, 1200, 0);
+        yard.light();
+        int would = yard.wouldEnd();
+        int steps = 0;
+        boolean isLit = true;
+        while (isLit) {
+            isLit = yard.burn(1);
+            steps++;
+        }
+        checks.same("wouldEnd with less power", would, steps);
+    }
+
     /** What it would be is what it is when those steps have gone by, and asking changes nothing. */
     private static void promise26WouldCone() {
         for (int steps = 1; steps <= 60; steps += 7) {
@@ -40,6 +60,7 @@ final class WouldTest {
             }
         }
         wouldConeUnlit();
+        wouldWithLessPower();
     }
 
     private static void wouldConeUnlit() {
@@ -154,6 +175,17 @@ final class WouldTest {
         two.glaze(0, 1, 0, 8, 0);
         checks.same("the nearest melts at 4", two.best(0, 3), -1);
         checks.same("its growth is too low", two.best(0, 4), -1);
+        nearByLess();
+    }
+
+    /** Growths 4.5 and 4.0 on a clay of 4.0. */
+    private static void nearByLess() {
+        KilnYard yard = new KilnYard();
+        yard.clay(12, 16);
+        yard.glaze(1, 7, 0, 0, 0);
+        checks.same("above by 0.5", yard.best(0, 1), 0);
+        yard.glaze(0, 1, 0, 0, 0);
+        checks.same("just that, and not above by 0.5", yard.best(0, 1), 1);
     }
 
     private static void promise28BestRefuses() {
@@ -255,7 +287,8 @@ final class WouldTest {
         checks.same("digest of glazed pots", yard.digest(), digestOf(yard, 3, 2));
         yard.pot(1, 2, 3, 4);
         yard.pot(1, 3, 3, 2);
-        yard.dry(1, 5);
+        yard.pot(1, 1, 1, 1);
+        yard.dry(2, 8);
         yard.cover(3, true);
         yard.set(4, 0, 6);
         yard.glaze(3, 4, 5, 60, 7);
@@ -264,11 +297,13 @@ final class WouldTest {
         yard.ramp(50, 1200, 3);
         yard.light();
         yard.damper(4);
-        checks.same("digest of a lit kiln", yard.digest(), digestOf(yard, 5, 3));
+        checks.same("WIDTHS that a shelf would hold", yard.wouldHold(0), 1);
+        while (yard.wouldCone(2, 20) == yard.wouldCone(2, 21)) {
+            yard.burn(1);
+        }
+        checks.same("digest of a lit kiln", yard.digest(), digestOf(yard, 6, 3));
         yard.burn(23);
-        checks.same("digest of a hot kiln", yard.digest(), digestOf(yard, 5, 3));
-        yard.burn(60);
-        checks.same("digest of a cool kiln", yard.digest(), digestOf(yard, 5, 3));
+        checks.same("digest of a hot kiln", yard.digest(), digestOf(yard, 6, 3));
     }
 
     private static long digestOf(KilnYard yard, int pots, int glazes) {
