@@ -263,6 +263,7 @@ final class WouldTest {
             yard.set(pot, pot / 2, pot % 2 * 5);
         }
         checks.same("full", yard.wouldHold(0), 0);
+        checks.same("longest row of a full shelf", yard.ofShelf(0, 3), 0);
         checks.same("one of nine", yard.wouldHold(2), 5);
         KilnYard one = Scenes.withDryPots(Scenes.TOUGH, 1);
         checks.same("each once", one.wouldHold(0), 1);
@@ -301,6 +302,8 @@ final class WouldTest {
         while (yard.wouldCone(2, 20) == yard.wouldCone(2, 21)) {
             yard.burn(1);
         }
+        checks.same("digest before a cone", yard.digest(), digestOf(yard, 6, 3));
+        yard.burn(1);
         checks.same("digest of a lit kiln", yard.digest(), digestOf(yard, 6, 3));
         yard.burn(23);
         checks.same("digest of a hot kiln", yard.digest(), digestOf(yard, 6, 3));
