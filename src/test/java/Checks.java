@@ -16,6 +16,11 @@ final class Checks {
         count(got == due, what + " answered " + got + ", due is " + due);
     }
 
+    /** For a heat that is just beside a boundary. */
+    void between(String what, double got, double low, double high) {
+        count(got > low && got < high, what + " answered " + got + ", due is between " + low + " and " + high);
+    }
+
     void same(String what, boolean got, boolean due) {
         count(got == due, what + " answered " + got + ", due is " + due);
     }
