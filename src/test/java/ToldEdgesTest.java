@@ -535,6 +535,7 @@ final class ToldEdgesTest {
         checks.same("lost the most through a wall of 4", dried(4, false, 1, 8).ofPot(0, 2), 0);
         checks.same("CRACKED, and WET", dried(1, false, 1, 8).ofPot(0, 0), 0);
         checks.same("CRACKED, and DRY", dried(1, false, 2, 8).ofPot(0, 0), 1);
+        checks.same("CRACKED twice", dried(1, false, 2, 8).ofPot(0, 2), 2);
     }
 
     /** Promise 6: "If it really loses more than 1.5f": of 1.5 that are left, no more is lost in any AIR. */

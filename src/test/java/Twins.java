@@ -1,5 +1,6 @@
 /**
- * Checks of calls that must change nothing. Of two yards made alike only one
+ * Checks of calls that must change nothing: "A method that throws an exception
+ * changes nothing.", nor does one that asks. Of two yards made alike only one
  * gets the call; what both answer behind it must be the same.
  */
 final class Twins {

@@ -15,6 +15,7 @@ final class UnloadEdgesTest {
         promise17Run();
         promise17Crazed();
         promise17Shivered();
+        promise17MarksAreASet();
         promise17SlumpedDry();
         promise17SlumpedGlazed();
         promise17SlumpedInstead();
@@ -161,6 +162,26 @@ final class UnloadEdgesTest {
         checks.same("MARKS by 2.0", marksOf(24, 0, 1, 0, 0), 0);
         checks.same("MARKS by 2.0 and 1 / 220", marksOf(24, 60, 60, 59, 41), 64);
         checks.same("MARKS by 6.0", marksOf(40, 0, 1, 0, 0), 64);
+    }
+
+    /** Promise 17: "MARKS (a set, the sum of 2^k", CRACKED three times, RUN and CRAZED. */
+    private static void promise17MarksAreASet() {
+        KilnYard yard = new KilnYard();
+        yard.clay(12, 8);
+        yard.glaze(1, 0, 0, 0, 0);
+        yard.pot(0, 1, 1, 1);
+        yard.dry(2, 8);
+        checks.same("CRACKED on two DAYS", yard.ofPot(0, 2), 2);
+        yard.set(0, 1, 0);
+        Scenes.coolFrom(yard, 574, 0, 5);
+        checks.same("CRACKED in the kiln as well", yard.ofPot(0, 2), 2);
+        work(yard, workOf(2));
+        yard.unload();
+        yard.dip(0, 0);
+        yard.set(0, 1, 0);
+        work(yard, workOf(3));
+        yard.unload();
+        checks.same("and RUN and CRAZED", yard.ofPot(0, 2), 2 + 16 + 32);
     }
 
     /** Promise 17: "with a CONE above TOP of the CLAY: SLUMPED and BROKEN instead", of a DRY one and a TOP of 3. */
