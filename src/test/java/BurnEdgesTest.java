@@ -30,6 +30,7 @@ final class BurnEdgesTest {
         promise13WorkAbove700();
         promise13BurstAbove100();
         promise13OnlyWetBursts();
+        promise13BurstBesideCracked();
         promise13RisesOver573();
         promise13FallsOver573();
         promise13CrackedByMoreThan32();
@@ -412,6 +413,19 @@ final class BurnEdgesTest {
         for (int pot = 0; pot < 4; pot++) {
             checks.same("MARKS", yard.ofPot(pot, 2), 0);
         }
+    }
+
+    /** Promise 13: "MARKS (a set", "a WET one .. is BURST": one that was CRACKED before stays so. */
+    private static void promise13BurstBesideCracked() {
+        KilnYard yard = Scenes.furnished();
+        yard.pot(Scenes.TOUGH, 1, 1, 1);
+        yard.dry(1, 8);
+        checks.same("STATE, CRACKED", yard.ofPot(0, 0), 0);
+        checks.same("MARKS, CRACKED", yard.ofPot(0, 2), 2);
+        yard.set(0, 1, 0);
+        Scenes.heatTo(yard, 101);
+        checks.same("STATE, BURST as well", yard.ofPot(0, 0), 5);
+        checks.same("MARKS, BURST as well", yard.ofPot(0, 2), 2 + 1);
     }
 
     /** The marks of a dry pot behind a step from the one heat to the other, both to be come to just so. */

@@ -19,6 +19,7 @@ final class UnloadEdgesTest {
         promise17SlumpedDry();
         promise17SlumpedGlazed();
         promise17SlumpedInstead();
+        promise17SlumpedBesideCracked();
         promise17TopOf1();
         promise17TopOf12();
         promise17OthersStay();
@@ -208,6 +209,28 @@ final class UnloadEdgesTest {
         checks.same("STATE with CONE 12", yard.ofPot(0, 0), 5);
         checks.same("MARKS with CONE 12", yard.ofPot(0, 2), 4);
         checks.same("COLOUR with CONE 12", yard.ofPot(0, 6), -1);
+    }
+
+    /** Promise 17: "MARKS (a set", "Of both .. SLUMPED": one that was CRACKED before stays so. */
+    private static void promise17SlumpedBesideCracked() {
+        for (int isGlazed = 0; isGlazed < 2; isGlazed++) {
+            KilnYard yard = Scenes.furnished();
+            yard.pot(Scenes.WEAK, 1, 1, 1);
+            yard.dry(2, 8);
+            if (isGlazed == 1) {
+                yard.set(0, 1, 0);
+                work(yard, workOf(2));
+                yard.unload();
+                yard.dip(0, Scenes.PALE);
+            }
+            checks.same("STATE, CRACKED", yard.ofPot(0, 0), isGlazed == 1 ? 3 : 1);
+            checks.same("MARKS, CRACKED", yard.ofPot(0, 2), 2);
+            yard.set(0, 1, 0);
+            work(yard, workOf(4));
+            checks.same("unload", yard.unload(), 1);
+            checks.same("STATE, SLUMPED as well", yard.ofPot(0, 0), 5);
+            checks.same("MARKS, SLUMPED as well", yard.ofPot(0, 2), 2 + 4);
+        }
     }
 
     /** Promise 17: of a CLAY with the least TOP no POT comes to be BISQUE: CONE 1 is too little, CONE 2 too much. */
